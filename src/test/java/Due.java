@@ -11,8 +11,8 @@ final class Due {
         }
     }
 
-    void holds(String what, boolean true_) {
-        is(what, 1, true_ ? 1 : 0);
+    void holds(String what, boolean isSo) {
+        is(what, 1, isSo ? 1 : 0);
     }
 
     int wrong() {

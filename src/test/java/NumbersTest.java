@@ -165,7 +165,7 @@ public final class NumbersTest {
             {2, 2, 0, 99, 0}, {1, 3, 1, 0, 0}, {2, 3, 0, 0, 0},
             {0, 1, 99, 0, 0}, {1, 1, -1, 0, 0}, {0, 2, 1, 99, 0}, {0, 1, 1, 0, 0},
             {2, 1, 2, 0, 0}, {2, 1, -1, 0, 0}, {1, 2, 1, 2, 0}, {0, 3, 1, 1, 2}, {0, 2, 99, 0, 0}, {0, 3, 1, 99, 0}};
-        int[] due1 = {
+        int[] wanted = {
             Cause.NOTHING, Cause.NOTHING, Cause.NOTHING, Cause.NOTHING,
             Cause.NO_ROW, Cause.NO_ROW, Cause.NO_ROW,
             Cause.NO_ROW, Cause.NO_ROW, Cause.NO_ROW, Cause.NO_ROW,
@@ -179,8 +179,8 @@ public final class NumbersTest {
             x.hang(1, 1, 1, 0, 0, 2);
             x.fill(2, 0, 0, 0, 4, 66);
             for (int i = 0; i < paths.length; i++) {
-                due.is("8, 9: path " + i, due1[i], readOrWrite(x, reads, paths[i], 4));
-                due.is("8, 9: path " + i + ", ahead of MISFIT", due1[i], readOrWrite(x, reads, paths[i], 0));
+                due.is("8, 9: path " + i, wanted[i], readOrWrite(x, reads, paths[i], 4));
+                due.is("8, 9: path " + i + ", ahead of MISFIT", wanted[i], readOrWrite(x, reads, paths[i], 0));
             }
             due.is("8, 9: met 1", 8, x.about(1));
             due.is("8, 9: met 2", 14, x.about(2));
