@@ -7,11 +7,13 @@ import java.nio.file.Files;
 import java.nio.file.Path;
 import java.util.Set;
 import java.util.TreeSet;
+import java.util.regex.Matcher;
 import java.util.regex.Pattern;
 
 /** The public face of the document, and rules 1, 3, 5, 6 and 11 of LANGUAGE.md as far as they can be seen. */
 public final class FaceTest {
     private static final Due due = new Due();
+    private static final Path DOCUMENT = Path.of("../shared/DOC.md");
     private static final String[] METHODS = {
         "int make(int,int,int,int)", "int take(int,int)", "int empty(int)", "int same(int,int)",
         "int look(int,int,int,int,int)", "int length(int,int,int,int,int)", "int read(int,int,int,int,int,int)",
@@ -24,6 +26,7 @@ public final class FaceTest {
 
     public static void main(String[] args) throws IOException {
         face();
+        faceOfTheDocument();
         hidden(DrillCores.class);
         for (Class<?> inside : DrillCores.class.getDeclaredClasses()) {
             nested(inside);
@@ -60,6 +63,25 @@ public final class FaceTest {
         }
         due.holds("the constants are " + fields,
                 fields.equals(Set.of("public static final int BAD", "public static final int FULL")));
+        due.is("BAD", -1, DrillCores.BAD);
+        due.is("FULL", -2, DrillCores.FULL);
+    }
+
+    /** The methods above and those that the document writes down are the same ones. */
+    private static void faceOfTheDocument() throws IOException {
+        if (!Files.exists(DOCUMENT)) {
+            System.out.println("no " + DOCUMENT + " here: the face was not compared with it");
+            return;
+        }
+        String text = Files.readString(DOCUMENT);
+        due.holds("the document's constants", text.contains("public static final int BAD = -1, FULL = -2;"));
+        Set<String> methods = new TreeSet<>();
+        Matcher line = Pattern.compile("(?m)^    public (\\w+) (\\w+)\\((.*)\\);$").matcher(text);
+        while (line.find()) {
+            String types = line.group(3).replaceAll("(\\w+) \\w+", "$1").replace(" ", "");
+            methods.add(line.group(1) + " " + line.group(2) + "(" + types + ")");
+        }
+        due.holds("the document's methods are " + methods, methods.equals(Set.of(METHODS)));
     }
 
     private static void hidden(Class<?> c) {
